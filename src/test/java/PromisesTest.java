@@ -93,6 +93,50 @@ public final class PromisesTest {
         }
     }
 
+    /** All that is told of the state. */
+    private String whole() {
+        StringBuilder all = new StringBuilder();
+        for (int what = 0; what < 16; what++) {
+            // The history and the text are no part of the state.
+            all.append(what == 10 || what == 11 ? "" : "count(" + what + ") " + x.count(what) + "; ");
+        }
+        for (int what = 0; what < 5; what++) {
+            for (int i = 0; i < 5; i++) {
+                all.append("saintOf ").append(x.saintOf(i, what)).append("; ");
+                all.append("readerOf ").append(x.readerOf(i, what)).append("; ");
+            }
+            for (int day = 0; day < 20; day++) {
+                all.append("dayOf ").append(x.dayOf(day, what)).append("; ");
+            }
+        }
+        for (int day = 0; day < 20; day++) {
+            for (int ago = 0; ago < 4; ago++) {
+                all.append("past ").append(x.past(ago, day, 0)).append(x.past(ago, day, 1));
+                all.append("; mean ").append(x.mean(ago, day, 1)).append("; ");
+            }
+            all.append("nextBase ").append(x.nextBase(day)).append("; ");
+        }
+        for (int what = 0; what < 2; what++) {
+            all.append("best ").append(x.bestBound(what)).append(x.bestRate(what)).append("; ");
+        }
+        return all.append(x.meanMistake()).toString();
+    }
+
+    private void change(int how) {
+        x.bet(how % 4, how % 3 == 0, 5);
+        x.bet((how + 1) % 4, how % 3 != 0, 3);
+        x.set(0, how % 9);
+        x.set(1, how + 7);
+        x.set(2, how % 5);
+        x.set(3, how % 9 + 1);
+        measureText("-" + (how + 1) + "*9;5*12;7;-3*2", 24);
+        x.bet((how + 2) % 4, true, 4);
+        x.base(19, how);
+        x.strike(0);
+        x.saint(how % 5, 9, how - 9, 9);
+        x.saint(2, how, 9, 3);
+    }
+
     // ---- the promises
 
     private void newObject() {
@@ -183,6 +227,13 @@ public final class PromisesTest {
             due.is("count(0)", x.count(0), year);
             due.is("count(2)", x.count(2), Math.min(4, year));
         }
+        due.is("count(7) of a year without days", x.count(7), 0);
+        due.is("nextBase(0) of a year without days", x.nextBase(0), 1000);
+        x.set(1, 100);
+        due.is("nextBase(0) of a year without days", x.nextBase(0), 1000);
+        x.measure(-10);
+        due.is("nextBase(0) is -10/3", x.nextBase(0), 997);
+        due.is("count(7)", x.count(7), 10);
         for (int ago = 0; ago < 4; ago++) {
             due.is("past(" + ago + ", 7, 0)", x.past(ago, 7, 0), 1006 - ago);
         }
@@ -381,6 +432,11 @@ public final class PromisesTest {
         due.is("saintOf(0, 0)", x.saintOf(0, 0), 2);
         due.is("undo()", x.undo(), 3);
         due.is("saintOf(0, 0)", x.saintOf(0, 0), 0);
+        x.undo();
+        x.undo();
+        x.undo();
+        due.is("strike(2)", x.strike(2), 3);
+        due.is("count(10)", x.count(10), 1);
     }
 
     private void set() {
@@ -526,12 +582,7 @@ public final class PromisesTest {
         faultOf(long59 + ";", 60);
         faultOf(long59 + "*", 60);
         faultOf(long59 + "1", 59);
-        due.is("measureAll() with 30 days", measureOf(long59), 30);
-    }
-
-    private int measureOf(String text) {
-        write(text);
-        return x.measureAll();
+        measureText(long59, 30);
     }
 
     private void undo() {
@@ -584,6 +635,14 @@ public final class PromisesTest {
         due.is("readerOf(1, 1)", x.readerOf(1, 1), 50);
         due.is("past(0, 0, 0)", x.past(0, 0, 0), UNKNOWN);
         due.isFloat("meanMistake()", x.meanMistake(), (float) sum / 19.0f);
+        for (int how = 0; how < 12; how++) {
+            change(how);
+            String before = whole();
+            measureText("-9*20;8*20;-2*20;4*15;-1*20", 95);
+            due.holds("measureAll() changes the state", !whole().equals(before));
+            x.undo();
+            due.holds("undo() brings " + before + "; not " + whole(), whole().equals(before));
+        }
     }
 
     private void keep() {
@@ -624,6 +683,18 @@ public final class PromisesTest {
         due.is("dayOf(1, 2)", x.dayOf(1, 2), NONE);
         due.is("restore() of the same", x.restore(), 1);
         due.is("count(10)", x.count(10), 4);
+        for (int how = 0; how < 12; how++) {
+            change(how);
+            String before = whole();
+            due.is("keep()", x.keep(), 24 * how + 25);
+            change(how + 3);
+            due.holds("the calls change the state", !whole().equals(before));
+            due.is("restore()", x.restore(), 24 * how + 25);
+            due.holds("restore() brings " + before + "; not " + whole(), whole().equals(before));
+            x.measure(1);
+            x.undo();
+            due.holds("undo() behind restore()", whole().equals(before));
+        }
     }
 
     private void dayOf() {
@@ -946,6 +1017,11 @@ public final class PromisesTest {
         measureText("3*20;1*20", 40);
         // 3 times the rate, divided by 100, is 1 from 34 to 66.
         due.is("bestRate(0)", x.bestRate(0), 34);
+        due.is("bestRate(1)", x.bestRate(1), 0);
+
+        fresh("promise 25, the rate 0");
+        measureText("20*20;0*20", 40);
+        due.is("bestRate(0)", x.bestRate(0), 0);
         due.is("bestRate(1)", x.bestRate(1), 0);
 
         fresh("promise 25, bases at most 40");
