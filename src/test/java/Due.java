@@ -1,3 +1,5 @@
+import java.util.List;
+
 /** Counts the checks of one test, and prints every answer that is not the one that is due. */
 final class Due {
     private int checks = 0;
@@ -19,6 +21,14 @@ final class Due {
         checks++;
         if (Float.floatToIntBits(got) != Float.floatToIntBits(want)) {
             tell(call + " answered " + got + ", due is " + want);
+        }
+    }
+
+    void same(String what, List<Whole.Line> got, List<Whole.Line> wanted) {
+        checks++;
+        String difference = Whole.difference(got, wanted);
+        if (!difference.isEmpty()) {
+            tell(what + ": " + difference);
         }
     }
 

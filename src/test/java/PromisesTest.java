@@ -1,14 +1,8 @@
+import java.util.List;
+import java.util.function.Consumer;
+
 /** For each promise of the document, answers that were worked out by hand. */
-public final class PromisesTest {
-    private static final int UNKNOWN = -1;
-    private static final int BAD_VALUE = -2;
-    private static final int FULL = -3;
-    private static final int NOT_POSSIBLE = -4;
-    private static final int NONE = -5;
-
-    private final Due due = new Due();
-    private MistakeAlmanac x;
-
+public final class PromisesTest extends Scene {
     public static void main(String[] args) {
         PromisesTest test = new PromisesTest();
         test.days();
@@ -63,24 +57,8 @@ public final class PromisesTest {
 
     // ---- helpers
 
-    private void fresh(String promise) {
-        due.at(promise);
-        x = new MistakeAlmanac();
-    }
-
-    private void write(String text) {
-        x.clearText();
-        for (int i = 0; i < text.length(); i++) {
-            due.is("type " + text.charAt(i), x.type(text.charAt(i)), i + 1);
-        }
-    }
-
-    private void measureText(String text, int days) {
-        write(text);
-        due.is("measureAll() of " + text, x.measureAll(), days);
-    }
-
     private void faultOf(String text, int wanted) {
+        again();
         write(text);
         due.is("fault() of " + text, x.fault(), wanted);
         due.is("its length", x.count(11), text.length());
@@ -93,48 +71,28 @@ public final class PromisesTest {
         }
     }
 
-    /** All that is told of the state. */
-    private String whole() {
-        StringBuilder all = new StringBuilder();
-        for (int what = 0; what < 16; what++) {
-            // The history and the text are no part of the state.
-            all.append(what == 10 || what == 11 ? "" : "count(" + what + ") " + x.count(what) + "; ");
-        }
-        for (int what = 0; what < 5; what++) {
-            for (int i = 0; i < 5; i++) {
-                all.append("saintOf ").append(x.saintOf(i, what)).append("; ");
-                all.append("readerOf ").append(x.readerOf(i, what)).append("; ");
-            }
-            for (int day = 0; day < 20; day++) {
-                all.append("dayOf ").append(x.dayOf(day, what)).append("; ");
-            }
-        }
-        for (int day = 0; day < 20; day++) {
-            for (int ago = 0; ago < 4; ago++) {
-                all.append("past ").append(x.past(ago, day, 0)).append(x.past(ago, day, 1));
-                all.append("; mean ").append(x.mean(ago, day, 1)).append("; ");
-            }
-            all.append("nextBase ").append(x.nextBase(day)).append("; ");
-        }
-        for (int what = 0; what < 2; what++) {
-            all.append("best ").append(x.bestBound(what)).append(x.bestRate(what)).append("; ");
-        }
-        return all.append(x.meanMistake()).toString();
+    /** Three of these runs of calls change all that a state holds. */
+    private static Consumer<MistakeAlmanac> changes(int how) {
+        return changed(how).andThen(changed(how + 1)).andThen(changed(how + 2));
     }
 
-    private void change(int how) {
-        x.bet(how % 4, how % 3 == 0, 5);
-        x.bet((how + 1) % 4, how % 3 != 0, 3);
-        x.set(0, how % 9);
-        x.set(1, how + 7);
-        x.set(2, how % 5);
-        x.set(3, how % 9 + 1);
-        measureText("-" + (how + 1) + "*9;5*12;7;-3*2", 24);
-        x.bet((how + 2) % 4, true, 4);
-        x.base(19, how);
-        x.strike(0);
-        x.saint(how % 5, 9, how - 9, 9);
-        x.saint(2, how, 9, 3);
+    private static Consumer<MistakeAlmanac> changed(int how) {
+        return x -> {
+            x.bet(how % 4, how % 3 == 0, 5);
+            x.bet((how + 1) % 4, how % 3 != 0, 3);
+            x.set(0, how % 9);
+            x.set(1, how + 7);
+            x.set(2, how % 5);
+            x.set(3, how % 9 + 1);
+            x.clearText();
+            type(x, "-" + (how + 1) + "*9;5*12;7;-3*2");
+            x.measureAll();
+            x.bet((how + 2) % 4, true, 4);
+            x.base(19, how);
+            x.strike(0);
+            x.saint(how % 5, 9, how - 9, 9);
+            x.saint(2, how, 9, 3);
+        };
     }
 
     // ---- the promises
@@ -636,12 +594,14 @@ public final class PromisesTest {
         due.is("past(0, 0, 0)", x.past(0, 0, 0), UNKNOWN);
         due.isFloat("meanMistake()", x.meanMistake(), (float) sum / 19.0f);
         for (int how = 0; how < 12; how++) {
-            change(how);
-            String before = whole();
-            measureText("-9*20;8*20;-2*20;4*15;-1*20", 95);
-            due.holds("measureAll() changes the state", !whole().equals(before));
-            x.undo();
-            due.holds("undo() brings " + before + "; not " + whole(), whole().equals(before));
+            List<Whole.Line> before = Whole.stateBehind(changes(how));
+            Consumer<MistakeAlmanac> measured = changes(how).andThen(x -> {
+                x.clearText();
+                type(x, "-9*20;8*20;-2*20;4*15;-1*20");
+                x.measureAll();
+            });
+            due.holds("measureAll() changes the state", !Whole.stateBehind(measured).equals(before));
+            due.same("undo()", Whole.stateBehind(measured.andThen(x -> x.undo())), before);
         }
     }
 
@@ -684,16 +644,15 @@ public final class PromisesTest {
         due.is("restore() of the same", x.restore(), 1);
         due.is("count(10)", x.count(10), 4);
         for (int how = 0; how < 12; how++) {
-            change(how);
-            String before = whole();
-            due.is("keep()", x.keep(), 24 * how + 25);
-            change(how + 3);
-            due.holds("the calls change the state", !whole().equals(before));
-            due.is("restore()", x.restore(), 24 * how + 25);
-            due.holds("restore() brings " + before + "; not " + whole(), whole().equals(before));
-            x.measure(1);
-            x.undo();
-            due.holds("undo() behind restore()", whole().equals(before));
+            List<Whole.Line> before = Whole.stateBehind(changes(how));
+            Consumer<MistakeAlmanac> behind = changes(how).andThen(x -> x.keep()).andThen(changed(how + 3));
+            due.holds("the calls change the state", !Whole.stateBehind(behind).equals(before));
+            Consumer<MistakeAlmanac> restored = behind.andThen(x -> x.restore());
+            due.same("restore()", Whole.stateBehind(restored), before);
+            due.same("measure(1) and undo() behind restore()", Whole.stateBehind(restored.andThen(x -> {
+                x.measure(1);
+                x.undo();
+            })), before);
         }
     }
 
