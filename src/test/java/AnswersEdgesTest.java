@@ -346,14 +346,17 @@ public final class AnswersEdgesTest extends Scene {
         due.is("bestBound(0) behind undo()", x.bestBound(0), 1005);
         fresh("promise 24, \"by what was foretold\"");
         keepBases();
-        x.saint(0, 40, 6, 1);
+        everyBase(x, 12);
+        x.saint(0, 40, -10, 1);
         measureText("1;0;1*18", 20);
-        // Day 1 was foretold 6 and was frost, its base is 0; the others were foretold 0.
-        due.is("bestBound(0)", x.bestBound(0), 999);
-        due.is("bestBound(1)", x.bestBound(1), 1);
+        // Day 1 was foretold 2 by the saint, the others 12 by their bases.
+        due.is("bestBound(0)", x.bestBound(0), 1002);
+        due.is("bestBound(1)", x.bestBound(1), 0);
         x.strike(0);
         x.set(2, -20);
-        due.is("bestBound(0)", x.bestBound(0), 999);
+        everyBase(x, -40);
+        due.is("the saints, the bound and the bases of now do not matter", x.bestBound(0), 1002);
+        due.is("the saints, the bound and the bases of now do not matter", x.bestBound(1), 0);
     }
 
     private void rateOf(int rate, int sum, String years) {

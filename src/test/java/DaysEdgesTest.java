@@ -41,6 +41,7 @@ public final class DaysEdgesTest extends Scene {
         sameMistakesForAllBases();
         settingsWhenTheYearEnds();
         nothingOfTheNextYearIsMeasured();
+        nothingOfAnOlderYearComesBack();
         fourYearsAreKnown();
     }
 
@@ -558,6 +559,28 @@ public final class DaysEdgesTest extends Scene {
         }
         for (int day = 0; day < 20; day++) {
             due.is("base(" + day + ", 40) is possible", x.base(day, 40) >= 960 ? 1 : 0, 1);
+        }
+    }
+
+    private void nothingOfAnOlderYearComesBack() {
+        fresh("\"nothing of it is measured\", also behind more years than are known");
+        keepBases();
+        for (int year = 1; year <= 9; year++) {
+            measureText("-9*5;8*15", 20);
+            isCount(7, 0);
+            isCount(8, 165);
+            x.set(1, 100);
+            for (int day = 0; day < 20; day += 6) {
+                due.is("nextBase(" + day + ") behind " + year, x.nextBase(day), 1000);
+                due.is("dayOf(" + day + ", 2) behind " + year, x.dayOf(day, 2), NONE);
+                due.is("dayOf(" + day + ", 3) behind " + year, x.dayOf(day, 3), NONE);
+            }
+            x.measure(10);
+            isCount(7, 10);
+            due.is("nextBase(0) is 10/3, behind " + year, x.nextBase(0), 1003);
+            due.is("nextBase(19) behind " + year, x.nextBase(19), 1000);
+            x.undo();
+            x.undo();
         }
     }
 
